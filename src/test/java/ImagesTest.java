@@ -7,6 +7,7 @@ public final class ImagesTest {
   public static void main(String[] args) {
     image();
     restoreTapeAndTexts();
+    restoreWhatWaits();
     whatAnImageLeaves();
     tell();
     check();
@@ -28,6 +29,7 @@ public final class ImagesTest {
     due("reading", x.reading(0), 3 * 67);
     x.seed(99);
     due("image", x.image(), 2);
+    due("reading", x.reading(0), 3 * 67);
     x.heir();
     x.pane(0, 0, 0, 1, 0);
     x.become(0, 69);
@@ -79,11 +81,20 @@ public final class ImagesTest {
     Due.write(x, "2");
     due("text", x.text(1), 1);
     due("law 1", x.law(1, 2, 3, 0), 24);
-    x.heir();
-    due("check", x.check(), 1);
+  }
+
+  private static void restoreWhatWaits() {
+    FrostWills x = Due.withHeirs(2);
+    x.tell(0);
+    x.tell(1);
+    x.image();
+    due("check", x.check(), 2);
+    x.tell(7);
     x.restore();
-    due("waiting", x.count(8), 1);
-    due("check", x.check(), 1);
+    due("waiting", x.count(8), 2);
+    due("check, by what waited", x.check(), 2);
+    x.restore();
+    due("and again", x.check(), 2);
   }
 
   private static void whatAnImageLeaves() {

@@ -18,6 +18,11 @@ public final class RandomRunsTest {
     "=", ">", "&", "|", "!", "(", ")", "(", ")"
   };
 
+  private static final String[][] USEFUL = {
+    {"s", "s/2+f", "9-s", "(s>4)*8+k", "s%3*4", "f+1", "s=0|(s>9)*7+!f"},
+    {"r*w+h", "(r=0)*w+r", "r*w*(r<5)", "(r>3)*9999", "99-r*w%50", "w*w*r+h*100", "(r%2=0)*w"}
+  };
+
   private final Random random;
   private FrostWills x;
   private Model model;
@@ -67,7 +72,7 @@ public final class RandomRunsTest {
       case "best": return of(upTo(7) - 1);
       case "share": return of(someHeir());
       case "coldFor": return of(somePane(), random.nextInt(4) == 0 ? upTo(100) : upTo(16));
-      case "breath": return of(someHeir(), someWish(), upTo(2));
+      case "breath": return someWish();
       case "odds": return of(somePane(), random.nextInt(4) == 0 ? upTo(100) : upTo(16), upTo(24), upTo(2));
       case "fits": return of(upTo(4), upTo(24), upTo(2));
       case "voice": return of(somePane(), upTo(4), random.nextInt(3) == 0 ? odd() : random.nextInt(41) - 20);
@@ -101,9 +106,18 @@ public final class RandomRunsTest {
     return random.nextInt(30) == 0 ? odd() : bits[random.nextInt(bits.length)];
   }
 
-  private int someWish() {
-    int which = random.nextInt(4);
-    return which == 0 ? upTo(100000) : which == 1 ? upTo(20) : upTo(600);
+  /** What some set would bring mostly, or one more. */
+  private long[] someWish() {
+    int heir = someHeir();
+    int n = model.a.panes.size();
+    if (random.nextInt(4) == 0 || n == 0) {
+      return of(heir, upTo(random.nextBoolean() ? 100000 : 600), upTo(2));
+    }
+    if (random.nextInt(8) != 0) {
+      heir = model.a.panes.get(random.nextInt(n)).heir;
+    }
+    int gain = model.gain(model.numbers(), heir, random.nextInt(1 << n));
+    return of(heir, gain + random.nextInt(2), upTo(2));
   }
 
   private int call(Method method, long[] g) {
@@ -135,7 +149,10 @@ public final class RandomRunsTest {
   /** A text by drawn pieces, mostly a whole one. */
   private String someText(int use, int room) {
     StringBuilder t = new StringBuilder();
-    if (random.nextInt(4) == 0) {
+    int which = random.nextInt(8);
+    if (which < 3) {
+      t.append(USEFUL[use][random.nextInt(USEFUL[use].length)]);
+    } else if (which == 3) {
       for (int i = random.nextInt(8); i >= 0; i--) {
         t.append(PIECES[random.nextInt(PIECES.length)]);
       }
@@ -208,6 +225,7 @@ public final class RandomRunsTest {
         continue;
       }
       String act = names[random.nextInt(names.length)];
+      // Six panes at most are for the best round: it should not be refused too often.
       if (model.a.panes.size() == 6 && act.equals("pane") && random.nextInt(8) != 0) {
         continue;
       }

@@ -48,6 +48,9 @@ public final class RoundsTest {
     due("by floor, held at 9", x.round(2), 40);
     Due.tell(x, 0, "s");
     due("by strokes", x.round(3), 82);
+    Due.tell(x, 0, "1+s-s+(f=2)*6");
+    due("each by its own floor", x.round(1), 40 + 28);
+    due("each by its own floor", x.round(0), 15 + 28 + 40);
     Due.tell(x, 0, "k+1");
     due("by kind", x.round(1), 40);
     Due.tell(x, 0, "0");

@@ -162,6 +162,9 @@ public final class SheetsTest {
     Due.row(x, 0, 16, 1, 2, 3, 4, 5, 6, 7, 8, 9, 10);
     due("as many as there are panes", x.worths(0), 8);
     due("worth 7", x.paneIs(7, 6), 8);
+    Due.row(x, 0, 16, 9, 9);
+    due("two", x.worths(0), 2);
+    due("the third stays", x.paneIs(2, 6), 3);
     due("told BEYOND", x.told(1), 2);
     due("told NONE", x.told(2), 1);
   }

@@ -84,6 +84,12 @@ public final class ThoughtTest {
     due("by numbers", x.best(0), 0);
     due("by numbers", x.best(1), 1);
     due("by numbers", x.best(2), 2);
+    x.untell(1);
+    due("best again", x.best(0), 2);
+    Due.tell(x, 1, "0");
+    due("nothing at all", x.best(-1), 0);
+    due("by numbers, too", x.best(0), 0);
+    due("by numbers, too", x.best(2), 2);
     Due.tell(x, 0, "f*9");
     due("only thought", x.count(5) + x.has(0) + x.has(1) + x.has(-1), 0);
     x.pane(0, 9, 9, 0, 0);
@@ -104,6 +110,7 @@ public final class ThoughtTest {
     due("six", x.best(-1), 6 * 5 + 5 * 4 + 4 * 3 + 3 * 2 + 2);
     due("sixth", x.best(5), 0);
     due("first", x.best(0), 5);
+    due("share of six", x.share(0), 6 * 5 + 5 * 4 + 4 * 3 + 3 * 2 + 2);
     due("what 6", x.best(6), Due.BEYOND);
     due("what -2", x.best(-2), Due.BEYOND);
     x.pane(0, 0, 0, 0, 0);
@@ -125,9 +132,9 @@ public final class ThoughtTest {
     x.pane(0, 19, 0, 0, 4);
     x.pane(5, 19, 0, 1, 3);
     // 0 ahead: 24 and 12; 1 ahead: 18 and 20.
-    due("best", x.best(-1), 38);
     due("share 0", x.share(0), 20);
     due("share 1", x.share(1), 18);
+    due("best", x.best(-1), 38);
     due("share 2", x.share(2), 0);
     due("share 3", x.share(3), Due.BEYOND);
     x.names(1, 0);
@@ -152,6 +159,8 @@ public final class ThoughtTest {
     coldFor(30, 9, 0, 3, 24);
     coldFor(60, 0, 0, 2, 2);
     coldFor(60, 0, 0, 3, 5);
+    coldFor(60, 0, 0, 11, 38);
+    coldFor(60, 0, 0, 12, Due.NONE);
     coldFor(47, 0, 0, 3, 0);
     coldFor(50, 0, 0, 1, 4);
     coldFor(50, 0, 1, 1, Due.NONE);
