@@ -1015,34 +1015,33 @@ public final class FrostWills {
       Arrays.fill(tooks, -1);
     }
 
+    private static int cellOf(int number, int strokes) {
+      boolean there = within(number, 0, MOST_PANES - 1) && within(strokes, 0, COLUMNS - 1);
+      return there ? number * COLUMNS + strokes : -1;
+    }
+
     private int valueOf(House h, int number, int r) {
       Pane p = h.paneAt(number);
-      if (p == null) {
+      int cell = cellOf(number, r);
+      if (p == null || cell < 0 || cell >= values.length) {
         return 0;
       }
-      int i = number * COLUMNS + r;
-      if (r < 0 || r >= COLUMNS || i >= values.length) {
-        return h.valueBy(r, p.worth, p.heirNumber);
+      if (values[cell] < 0) {
+        values[cell] = h.valueBy(r, p.worth, p.heirNumber);
       }
-      if (values[i] < 0) {
-        values[i] = h.valueBy(r, p.worth, p.heirNumber);
-      }
-      return values[i];
+      return values[cell];
     }
 
     private int tookOf(House h, int number, int s) {
       Pane p = h.paneAt(number);
-      if (p == null) {
+      int cell = cellOf(number, s);
+      if (p == null || cell < 0 || cell >= tooks.length) {
         return 0;
       }
-      int i = number * COLUMNS + s;
-      if (s < 0 || s >= COLUMNS || i >= tooks.length) {
-        return h.tookBy(s, p.floor, p.kind);
+      if (tooks[cell] < 0) {
+        tooks[cell] = h.tookBy(s, p.floor, p.kind);
       }
-      if (tooks[i] < 0) {
-        tooks[i] = h.tookBy(s, p.floor, p.kind);
-      }
-      return tooks[i];
+      return tooks[cell];
     }
 
     int placeAt(int i) {
