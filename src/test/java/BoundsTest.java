@@ -64,7 +64,7 @@ public final class BoundsTest {
   private static Bound.Call withRow(Bound.Call call, int... numbers) {
     return (x, v) -> {
       if (v >= 0 && v <= 3) {
-        Twins.row(x, v, 8, numbers);
+        Due.row(x, v, 8, numbers);
       }
       return call.by(x, v);
     };
@@ -107,7 +107,7 @@ public final class BoundsTest {
   /** Of pane 0 there are 11 left by COLD 32 to 35. */
   private static FrostWills withEleven() {
     FrostWills x = Twins.house();
-    Twins.row(x, 1, 16, 11);
+    Due.row(x, 1, 16, 11);
     return x;
   }
 
@@ -165,7 +165,7 @@ public final class BoundsTest {
   private static FrostWills withLikeSheets() {
     FrostWills x = Twins.house();
     for (int s = 0; s < 4; s++) {
-      Twins.row(x, s, 16, 10 * s, 10 * s + 1, 10 * s + 2);
+      Due.row(x, s, 16, 10 * s, 10 * s + 1, 10 * s + 2);
     }
     return x;
   }

@@ -66,7 +66,7 @@ public final class NightEdgesTest {
   private static void tookByWhatIsRead() {
     FrostWills x = windows(1, 1, 13);
     x.pane(0, 29, 0, 0, 1);
-    Twins.row(x, 0, 8, 0, 1);
+    Due.row(x, 0, 8, 0, 1);
     Due.tell(x, 0, "s-5");
     due("7 at 13, 8 at 15", x.round(0), 7 + 8);
     x.set(1, 21);
@@ -92,7 +92,7 @@ public final class NightEdgesTest {
       x.set(1, 7);
       x.pane(0, 9, floor, 0, 0);
       x.pane(0, 19, 0, 0, 1);
-      Twins.row(x, 0, 8, 0, 1);
+      Due.row(x, 0, 8, 0, 1);
       Due.tell(x, 0, "f");
       due("took by floor " + floor, x.round(0), 13 - Math.max(1, floor));
       for (int kind = 0; kind <= 6; kind++) {
@@ -107,9 +107,9 @@ public final class NightEdgesTest {
   private static void sheetsOfRounds() {
     FrostWills x = windows(8, 1, 9);
     int want = 11 + 10 + 9 + 8 + 7 + 6 + 5 + 4;
-    Twins.row(x, 1, 8, 256, 1, 2, 3, 4, 5, 6, -256 + 7);
-    Twins.row(x, 2, 16, 7, 6, 5, 4, 3, 2, 1, 65536);
-    Twins.row(x, 3, 32, 7, 0, 6, 1, 5, 2, 4, 3);
+    Due.row(x, 1, 8, 256, 1, 2, 3, 4, 5, 6, -256 + 7);
+    Due.row(x, 2, 16, 7, 6, 5, 4, 3, 2, 1, 65536);
+    Due.row(x, 3, 32, 7, 0, 6, 1, 5, 2, 4, 3);
     for (int s = 0; s < 4; s++) {
       due("round of sheet " + s, x.round(s), want);
     }
@@ -295,7 +295,7 @@ public final class NightEdgesTest {
   private static void byNumbers() {
     FrostWills plain = byTime();
     FrostWills other = byTime();
-    Twins.row(other, 1, 8, 2, 1, 0);
+    Due.row(other, 1, 8, 2, 1, 0);
     other.round(1);
     due("best", other.best(0), 1);
     other.share(0);
@@ -317,7 +317,7 @@ public final class NightEdgesTest {
   /** A ROUND goes by what PANES and TEXTS are now, not as they were when it was thought of. */
   private static void whatWasThoughtAhead() {
     FrostWills x = byTime();
-    Twins.row(x, 0, 8, 0, 1, 2);
+    Due.row(x, 0, 8, 0, 1, 2);
     due("round", x.round(0), 6 + 60 + 250);
     Due.tell(x, 1, "r");
     due("by a text", x.round(0), 6 + 6 + 5);
@@ -326,7 +326,7 @@ public final class NightEdgesTest {
     x.untell(1);
     due("by worth again", x.round(0), 6 + 40 + 50);
     x.untell(0);
-    Twins.row(x, 1, 8, 3, 2, 1);
+    Due.row(x, 1, 8, 3, 2, 1);
     x.worths(1);
     due("by other worths", x.round(0), 18 + 12 + 5);
     x.wipe(0, 0);

@@ -5,8 +5,9 @@
  */
 public final class RefusedTest {
   private static final int[][] NO_ROUNDS = {
-    {}, {3}, {3, 1, 0}, {1, 2, 3}, {3, 2, 1}, {3, 1, 0, 2, 4}, {3, 1, 0, 2, 2}, {3, 1, 0, 3}, {3, 1, 0, 4}, {3, 1, 0, -1},
-    {0, 0, 0, 0}, {1, 2, 3, 4}, {3, 1, 0, 32}, {3, 1, 0, 34}, {3, 1, 0, 256 + 2}, {3, 1, 0, 65536 + 2},
+    {}, {3}, {3, 1, 0}, {1, 2, 3}, {3, 2, 1}, {3, 1, 0, 2, 4}, {3, 1, 0, 2, 2}, {3, 1, 0, 3},
+    {3, 1, 0, 4}, {3, 1, 0, -1}, {0, 0, 0, 0}, {1, 2, 3, 4}, {3, 1, 0, 32}, {3, 1, 0, 34},
+    {3, 1, 0, 256 + 2}, {3, 1, 0, 65536 + 2},
     {0, 1, 2, 3, 4, 5, 6, 7, 8, 9, 10, 11, 12, 13, 14, 15, 16, 17, 18, 19, 20, 21, 22, 23}
   };
 
@@ -37,6 +38,7 @@ public final class RefusedTest {
     restore();
     tell();
     told();
+    severalAtOnce();
     onlyThought();
     Due.end("RefusedTest");
   }
@@ -168,7 +170,7 @@ public final class RefusedTest {
   }
 
   private static FrostWills withRow(FrostWills x, int... numbers) {
-    Twins.row(x, 2, 32, numbers);
+    Due.row(x, 2, 32, numbers);
     return x;
   }
 
@@ -372,7 +374,7 @@ public final class RefusedTest {
 
   private static FrostWills withTwoLikeSheets() {
     FrostWills x = Twins.house();
-    Twins.row(x, 3, 8, 51, 52);
+    Due.row(x, 3, 8, 51, 52);
     return x;
   }
 
@@ -429,6 +431,28 @@ public final class RefusedTest {
       Due.due("told of " + other[i], x.told(other[i]), Due.BEYOND);
       Due.due("counted", x.told(1), i + 1);
     }
+  }
+
+  /** Where several numbers of a call are refused, it is one ERROR. */
+  private static void severalAtOnce() {
+    refused("pane", x -> x.pane(-1, -1, -1, -1, -1), Due.BEYOND);
+    refused("pane", x -> x.pane(70, 40, 10, 3, 100), Due.BEYOND);
+    refused("paneIs", x -> x.paneIs(4, 8), Due.BEYOND);
+    refused("become", x -> x.become(4, 70), Due.BEYOND);
+    refused("as", x -> x.as(4, 7), Due.BEYOND);
+    refused("wipe", x -> x.wipe(4, 10), Due.BEYOND);
+    refused("names", x -> x.names(4, 3), Due.BEYOND);
+    refused("set", x -> x.set(3, 41), Due.BEYOND);
+    refused("left", x -> x.left(4, 24), Due.BEYOND);
+    refused("coldFor", x -> x.coldFor(4, 100), Due.BEYOND);
+    refused("breath", x -> x.breath(3, 100000, 2), Due.BEYOND);
+    refused("odds", x -> x.odds(4, 100, 24, 2), Due.BEYOND);
+    refused("fits", x -> x.fits(4, 24, 2), Due.BEYOND);
+    refused("voice", x -> x.voice(4, 4, 0), Due.BEYOND);
+    refused("sheet", x -> x.sheet(4, 7, 25), Due.BEYOND);
+    refused("put", x -> x.put(4, -1, 0), Due.BEYOND);
+    refused("move", x -> x.move(4, -1, -1, 25, -1), Due.BEYOND);
+    refused("move", x -> x.move(0, 5, 0, 5, 5), Due.BEYOND);
   }
 
   /** What asks and what only thinks leaves all as it was. */

@@ -183,7 +183,7 @@ public final class StoreEdgesTest {
   private static void sheetsApart() {
     FrostWills x = withPanes(2);
     for (int s = 0; s < 4; s++) {
-      Twins.row(x, s, 8, 10 + s, 20 + s);
+      Due.row(x, s, 8, 10 + s, 20 + s);
     }
     due("missing", x.sheet(1, 0, 2), 1);
     for (int s = 0; s < 4; s++) {
@@ -214,18 +214,18 @@ public final class StoreEdgesTest {
   /** Promise 28: all 0, of other bits, of fewer and of more. */
   private static void sheetAnew() {
     FrostWills x = withPanes(3);
-    Twins.row(x, 3, 8, 1, 2, 3);
+    Due.row(x, 3, 8, 1, 2, 3);
     due("the same anew", x.sheet(3, 8, 3), 1);
     holds(x, 8, 0, 0, 0, 0);
-    Twins.row(x, 3, 8, 1, 2, 3);
+    Due.row(x, 3, 8, 1, 2, 3);
     due("fewer", x.sheet(3, 8, 2), 1);
     due("the third is none", x.put(3, 2, 1), Due.BEYOND);
     due("more", x.sheet(3, 8, 3), 1);
     holds(x, 8, 0, 0, 0, 0);
-    Twins.row(x, 3, 8, 1, 2, 3);
+    Due.row(x, 3, 8, 1, 2, 3);
     due("of other bits", x.sheet(3, 32, 3), 1);
     holds(x, 32, 0, 0, 0, 0);
-    Twins.row(x, 3, 32, 1, 2, 3);
+    Due.row(x, 3, 32, 1, 2, 3);
     due("missing", x.sheet(3, 0, 3), 1);
     due("missing", x.worths(3), Due.NONE);
     due("missing again", x.sheet(3, 0, 3), 1);
@@ -240,13 +240,13 @@ public final class StoreEdgesTest {
   private static void movesWithinOne() {
     FrostWills x = withPanes(8);
     for (int bits = 8; bits <= 32; bits *= 2) {
-      Twins.row(x, 3, bits, 1, 2, 3, 4, 5, 6, 7, 8);
+      Due.row(x, 3, bits, 1, 2, 3, 4, 5, 6, 7, 8);
       due("one on", x.move(3, 0, 3, 1, 7), 7);
       holds(x, bits, 0, 1, 1, 2, 3, 4, 5, 6, 7);
-      Twins.row(x, 3, bits, 1, 2, 3, 4, 5, 6, 7, 8);
+      Due.row(x, 3, bits, 1, 2, 3, 4, 5, 6, 7, 8);
       due("one back", x.move(3, 1, 3, 0, 7), 7);
       holds(x, bits, 0, 2, 3, 4, 5, 6, 7, 8, 8);
-      Twins.row(x, 3, bits, 1, 2, 3, 4, 5, 6, 7, 8);
+      Due.row(x, 3, bits, 1, 2, 3, 4, 5, 6, 7, 8);
       due("three on", x.move(3, 1, 3, 4, 4), 4);
       holds(x, bits, 0, 1, 2, 3, 4, 2, 3, 4, 5);
       due("the last to the first", x.move(3, 7, 3, 0, 1), 1);
@@ -276,8 +276,8 @@ public final class StoreEdgesTest {
     due("25", x.move(0, 0, 3, 0, 25), Due.BEYOND);
     due("24 from 1 on", x.move(0, 1, 3, 0, 24), Due.BEYOND);
     due("24 to 1 on", x.move(0, 0, 3, 1, 24), Due.BEYOND);
-    Twins.row(x, 0, 32, LEAST + 5, 65536 + 5);
-    Twins.row(x, 1, 32, 1, 1);
+    Due.row(x, 0, 32, LEAST + 5, 65536 + 5);
+    Due.row(x, 1, 32, 1, 1);
     due("wide ones", x.move(0, 0, 1, 0, 2), 2);
     due("below 0 still", x.worths(1), 0);
     due("above 99 still", x.move(0, 1, 1, 0, 1) + x.worths(1), 1);
@@ -285,7 +285,7 @@ public final class StoreEdgesTest {
 
   private static void movesOfNone() {
     FrostWills x = withPanes(1);
-    Twins.row(x, 0, 8, 1);
+    Due.row(x, 0, 8, 1);
     x.sheet(1, 8, 0);
     due("none of one", x.move(0, 0, 1, 0, 0), 0);
     due("none behind it", x.move(0, 1, 1, 0, 0), 0);
@@ -305,7 +305,7 @@ public final class StoreEdgesTest {
     };
     for (int[] r : rows) {
       FrostWills x = withPanes(3);
-      Twins.row(x, 0, 32, r[1], r[2], r[3]);
+      Due.row(x, 0, 32, r[1], r[2], r[3]);
       due("worths", x.worths(0), r[0]);
       for (int i = 0; i < 3; i++) {
         due("worth " + i, x.paneIs(i, 6), i < r[0] ? r[1 + i] : 50);
@@ -335,7 +335,7 @@ public final class StoreEdgesTest {
   /** From the first on, as far as they are right; by HOUR and COLD as they are. */
   private static void judgeEdges() {
     FrostWills x = Due.withHeirs(1);
-    Twins.row(x, 0, 8, 3, 0, 3);
+    Due.row(x, 0, 8, 3, 0, 3);
     due("no panes", x.judge(0), 0);
     for (int i = 0; i < 8; i++) {
       x.pane(0, i < 4 ? 0 : 10, 0, 0, 1);
@@ -343,9 +343,9 @@ public final class StoreEdgesTest {
     due("the first alone, though the third is right", x.judge(0), 1);
     x.sheet(1, 8, 0);
     due("no numbers", x.judge(1), 0);
-    Twins.row(x, 2, 8, 3, 3, 3, 3, 3, 3, 3, 3);
+    Due.row(x, 2, 8, 3, 3, 3, 3, 3, 3, 3, 3);
     due("all 8", x.judge(2), 8);
-    Twins.row(x, 3, 8, 3, 3, 3, 3, 3, 3, 3, 3, 0, 0, 0, 0, 0, 0, 0, 0, 0, 0, 0, 0, 0, 0, 0, 3);
+    Due.row(x, 3, 8, 3, 3, 3, 3, 3, 3, 3, 3, 0, 0, 0, 0, 0, 0, 0, 0, 0, 0, 0, 0, 0, 0, 0, 3);
     due("8 of 24", x.judge(3), 8);
     x.put(2, 7, 2);
     due("but the last", x.judge(2), 7);
@@ -361,7 +361,7 @@ public final class StoreEdgesTest {
     due("none by 11", x.judge(3), 0);
     x.set(0, 15);
     due("all by 15", x.judge(3), 8);
-    Twins.row(x, 0, 32, 3, -3, 3);
+    Due.row(x, 0, 32, 3, -3, 3);
     due("below 0 is none", x.judge(0), 1);
   }
 
@@ -448,7 +448,7 @@ public final class StoreEdgesTest {
       due("tape", x.law(1, 0, 0, 0), 3);
       due("z", x.seed(i), 7);
       x.become(1, 66);
-      Twins.row(x, 0, 8, 1, 0);
+      Due.row(x, 0, 8, 1, 0);
       due("reading", x.reading(0), 6);
       due("worths", x.worths(0), 2);
       x.untell(0);
@@ -471,7 +471,7 @@ public final class StoreEdgesTest {
       x.wipe(i, 5);
       x.names(i, 4);
     }
-    Twins.row(x, 0, 8, 50, 50, 50);
+    Due.row(x, 0, 8, 50, 50, 50);
     x.worths(0);
     x.pane(1, 1, 1, 1, 1);
     x.restore();
@@ -550,7 +550,7 @@ public final class StoreEdgesTest {
     for (int i = 0; i < 6; i++) {
       x.pane(0, 9, 0, i, i + 1);
     }
-    Twins.row(x, 0, 8, 0, 1, 2, 3, 4, 5);
+    Due.row(x, 0, 8, 0, 1, 2, 3, 4, 5);
     x.reading(0);
     return x;
   }

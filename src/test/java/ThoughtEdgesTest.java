@@ -124,7 +124,7 @@ public final class ThoughtEdgesTest {
     bestIs(x, 17, 1, 0);
     x.set(1, 9);
     bestIs(x, 8 + 3, 1, 0);
-    Twins.row(x, 0, 8, 9, 1);
+    Due.row(x, 0, 8, 9, 1);
     x.worths(0);
     bestIs(x, 36 + 3, 0, 1);
     due("share 0", x.share(0), 36);
@@ -245,7 +245,7 @@ public final class ThoughtEdgesTest {
     due("one more", x.breath(0, 8 * 9999 + 1, 0), Due.NONE);
     due("the most", x.breath(0, 99999, 1), Due.NONE);
     Due.tell(x, 1, "(r=0)*w");
-    Twins.row(x, 0, 8, 1, 1, 1, 1, 1, 1, 1, 9);
+    Due.row(x, 0, 8, 1, 1, 1, 1, 1, 1, 1, 9);
     x.worths(0);
     due("the last alone", x.breath(0, 9, 1), 128);
     due("the first and the last", x.breath(0, 10, 1), 129);
@@ -273,7 +273,7 @@ public final class ThoughtEdgesTest {
   private static void breathOfTheRoundAlone() {
     FrostWills x = at(6, 12, 1);
     x.pane(0, 9, 0, 0, 2);
-    Twins.row(x, 0, 8, 0);
+    Due.row(x, 0, 8, 0);
     due("reading", x.reading(0), 12);
     due("12", x.breath(0, 12, 0), 0);
     due("13", x.breath(0, 13, 0), Due.NONE);
@@ -282,7 +282,7 @@ public final class ThoughtEdgesTest {
       x.pane(0, 9, 0, 0, 2);
     }
     Due.tell(x, 1, "9999");
-    Twins.row(x, 0, 8, 0, 1, 2, 3, 4, 5, 6, 7);
+    Due.row(x, 0, 8, 0, 1, 2, 3, 4, 5, 6, 7);
     x.reading(0);
     x.reading(0);
     due("has the most", x.has(0), 99999);
@@ -330,7 +330,7 @@ public final class ThoughtEdgesTest {
     x.sheet(0, 8, 0);
     due("no panes, no numbers", x.fits(0, 0, 0), 41);
     due("no panes, no numbers", x.fits(0, 23, 1), 0);
-    Twins.row(x, 1, 8, 0);
+    Due.row(x, 1, 8, 0);
     due("no panes, a number", x.fits(1, 0, 0), 0);
     due("no panes, a number", x.fits(1, 0, 1), Due.NONE);
     x.pane(0, 0, 0, 0, 1);
@@ -347,7 +347,7 @@ public final class ThoughtEdgesTest {
     for (int i = 0; i < 8; i++) {
       x.pane(0, i, 0, 0, 1);
     }
-    Twins.row(x, 0, 8, 2, 2, 2, 3, 3, 3, 4, 4);
+    Due.row(x, 0, 8, 2, 2, 2, 3, 3, 3, 4, 4);
     due("all", x.fits(0, 6, 0), 4);
     due("all", x.fits(0, 6, 1), 8);
     x.put(0, 7, 5);
@@ -356,7 +356,7 @@ public final class ThoughtEdgesTest {
     x.put(0, 7, 4);
     x.put(0, 0, 1);
     due("but the first", x.fits(0, 6, 0), 0);
-    Twins.row(x, 0, 8, 2, 2, 2, 3, 3, 3, 4, 4, 0);
+    Due.row(x, 0, 8, 2, 2, 2, 3, 3, 3, 4, 4, 0);
     due("a ninth number", x.fits(0, 6, 0), 0);
     due("a ninth number", x.fits(0, 6, 1), Due.NONE);
     x.sheet(1, 8, 24);
@@ -369,7 +369,7 @@ public final class ThoughtEdgesTest {
     FrostWills x = at(6, 12, 1);
     x.pane(0, 0, 0, 0, 1);
     x.pane(60, 10, 0, 0, 1);
-    Twins.row(x, 0, 32, 10);
+    Due.row(x, 0, 32, 10);
     due("by 40", x.fits(0, 0, 0), 1);
     due("by 40", x.fits(0, 0, 1), 40);
     x.put(0, 0, 0);
@@ -380,14 +380,14 @@ public final class ThoughtEdgesTest {
       due("nothing is " + v, x.fits(0, 0, 0), 0);
       due("nothing is " + v, x.fits(0, 0, 1), Due.NONE);
     }
-    Twins.row(x, 0, 16, 10, 11);
+    Due.row(x, 0, 16, 10, 11);
     due("by 40, as it was at 7", x.fits(0, 7, 1), 40);
     due("not so at 8", x.fits(0, 8, 0), 0);
     x.put(0, 1, 10);
     due("so at 8", x.fits(0, 8, 1), 40);
     x.put(0, 1, 256 + 10);
     due("16 bits", x.fits(0, 8, 0), 0);
-    Twins.row(x, 0, 8, 256 + 10, 256 + 10);
+    Due.row(x, 0, 8, 256 + 10, 256 + 10);
     due("8 bits", x.fits(0, 8, 0), 1);
   }
 

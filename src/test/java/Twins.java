@@ -117,8 +117,7 @@ final class Twins {
     x.set(1, 5);
     x.set(2, 1);
     x.seed(7);
-    x.sheet(0, 8, 2);
-    x.put(0, 1, 1);
+    Due.row(x, 0, 8, 0, 1);
     x.reading(0);
     x.tell(x.has(0));
     Due.write(x, "2+1");
@@ -138,22 +137,15 @@ final class Twins {
     x.set(0, 33);
     x.set(1, 8);
     x.set(2, 0);
-    row(x, 0, 8, 3, 1, 0, 2);
-    row(x, 1, 16, 11, 12, 13);
-    row(x, 2, 32, 21, 22);
+    Due.row(x, 0, 8, 3, 1, 0, 2);
+    Due.row(x, 1, 16, 11, 12, 13);
+    Due.row(x, 2, 32, 21, 22);
     x.reading(0);
     x.seed(-5);
     x.tell(x.has(0));
     x.tell(x.has(1));
     Due.write(x, "4+1");
     x.voice(3, 1, 4);
-  }
-
-  static void row(FrostWills x, int sheet, int bits, int... numbers) {
-    x.sheet(sheet, bits, numbers.length);
-    for (int i = 0; i < numbers.length; i++) {
-      x.put(sheet, i, numbers[i]);
-    }
   }
 
   /** As many heirs and panes; pane i is north, of worth i, for heir 0; sheet 0 is the round. */
