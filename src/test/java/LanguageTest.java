@@ -49,6 +49,7 @@ public final class LanguageTest {
 
   public static void main(String[] args) throws IOException {
     face();
+    sections();
     read();
     rules();
     depth();
@@ -83,6 +84,32 @@ public final class LanguageTest {
     holds("public and final", FrostWills.class.getModifiers() == (Modifier.PUBLIC | Modifier.FINAL));
     Due.due("constructors", FrostWills.class.getConstructors().length, 1);
     Due.due("public fields", FrostWills.class.getFields().length, 0);
+  }
+
+  /** The lines that stand ahead of calls: behind each one those calls, in their order. */
+  private static void sections() throws IOException {
+    String doc = Files.readString(Path.of("../shared/DOC.md"));
+    Matcher m = Pattern.compile("(?m)^Ahead of the calls (.*) the interface says: (---- .*)\\.$").matcher(doc);
+    String[] parts = Files.readString(SOURCE).split("(?m)^  // (?=---- )");
+    int part = 0;
+    while (m.find()) {
+      part++;
+      String under = part < parts.length ? parts[part] : "";
+      holds("in its place: " + m.group(2), under.startsWith(m.group(2) + "\n"));
+      Due.due("behind " + m.group(2) + " stand " + m.group(1), m.group(1).equals(callsOf(under)) ? 1 : 0, 1);
+    }
+    Due.due("lines ahead of calls", part, 5);
+    Due.due("lines ahead of calls in the class", parts.length - 1, 5);
+    Due.due("calls ahead of all lines", callsOf(parts[0]).length(), 0);
+  }
+
+  private static String callsOf(String source) {
+    Matcher m = Pattern.compile("(?m)^  public int (\\w+)\\(").matcher(source);
+    StringBuilder calls = new StringBuilder();
+    while (m.find()) {
+      calls.append(calls.length() == 0 ? "`" : ", `").append(m.group(1)).append('`');
+    }
+    return calls.toString();
   }
 
   private static void read() throws IOException {
